@@ -606,7 +606,6 @@ public final class PointsOffice {
             kind[size] = which;
             // so that a light course stands in windows where an offence of its day would
             offence[size] = today;
-            struck[size] = 0;
             size++;
         }
 
@@ -735,16 +734,12 @@ public final class PointsOffice {
             size++;
         }
 
-        private boolean isOf(int i, int d) {
-            return i >= 0 && i < PLACES && driver[i] == d;
-        }
-
         private boolean has(int i, int d, int day) {
             return i >= 0 && i < PLACES && driver[i] == d && first[i] <= day && day <= last[i];
         }
 
         private boolean hold(int d, int day) {
-            for (int i = 0; i < size; i++) {
+            for (int i = 0; i < size && i < PLACES; i++) {
                 if (has(i, d, day)) {
                     return true;
                 }
@@ -767,7 +762,7 @@ public final class PointsOffice {
         /** The day itself if no ban has it. */
         private int dayBehindBansOn(int d, int day) {
             int next = day;
-            for (int i = 0; i < size; i++) {
+            for (int i = 0; i < size && i < PLACES; i++) {
                 if (has(i, d, day)) {
                     next = Math.max(next, last[i] + 1);
                 }
@@ -788,8 +783,8 @@ public final class PointsOffice {
 
         private int nextFirstDay(int d, int day, int otherwise) {
             int next = otherwise;
-            for (int i = 0; i < size; i++) {
-                if (isOf(i, d) && first[i] > day) {
+            for (int i = 0; i < size && i < PLACES; i++) {
+                if (driver[i] == d && first[i] > day) {
                     next = Math.min(next, first[i]);
                 }
             }
@@ -798,8 +793,8 @@ public final class PointsOffice {
 
         private int latestDay(int d) {
             int latest = -1;
-            for (int i = 0; i < size; i++) {
-                if (isOf(i, d)) {
+            for (int i = 0; i < size && i < PLACES; i++) {
+                if (driver[i] == d) {
                     latest = Math.max(latest, last[i]);
                 }
             }
@@ -808,8 +803,8 @@ public final class PointsOffice {
 
         private int greatSince(int d, int day) {
             int many = 0;
-            for (int i = 0; i < size; i++) {
-                if (isOf(i, d) && great[i] == 1 && givenOn[i] >= day) {
+            for (int i = 0; i < size && i < PLACES; i++) {
+                if (driver[i] == d && great[i] == 1 && givenOn[i] >= day) {
                     many++;
                 }
             }
@@ -820,7 +815,7 @@ public final class PointsOffice {
         private int toShorten(int d, int t) {
             int found = -1;
             int longest = t;
-            for (int i = 0; i < size; i++) {
+            for (int i = 0; i < size && i < PLACES; i++) {
                 if (has(i, d, t) && shortened[i] == 0 && last[i] >= longest) {
                     found = i;
                     longest = last[i];
@@ -839,8 +834,8 @@ public final class PointsOffice {
 
         private int givenTo(int d) {
             int many = 0;
-            for (int i = 0; i < size; i++) {
-                if (isOf(i, d)) {
+            for (int i = 0; i < size && i < PLACES; i++) {
+                if (driver[i] == d) {
                     many++;
                 }
             }
@@ -850,8 +845,8 @@ public final class PointsOffice {
         /** Where the driver's n-th ban stands, -1: not so many. */
         private int placeOf(int d, int n) {
             int many = 0;
-            for (int i = 0; i < size; i++) {
-                if (isOf(i, d)) {
+            for (int i = 0; i < size && i < PLACES; i++) {
+                if (driver[i] == d) {
                     if (many == n) {
                         return i;
                     }

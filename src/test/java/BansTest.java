@@ -21,6 +21,9 @@ public final class BansTest {
         queue();
         longCourses();
         doubles();
+        mostBans();
+        manyGaps();
+        shortOwnBan();
         seen();
         seenWrong();
         counts();
@@ -371,6 +374,51 @@ public final class BansTest {
         x.strike(0);
         check.due("no ban, not double", x.event(2, 8), 0);
         check.due("sum(0, 60)", x.sum(0, 60), 12);
+    }
+
+    private static void mostBans() {
+        check.part("as many bans as there can be");
+        PointsOffice x = Check.laid("w001;l01;b99;m999;k999;");
+        x.pass(9999);
+        for (int e = 0; e < 40; e++) {
+            check.due("convict", x.convict(0, 9999, 0, 0), e);
+        }
+        int all = 99 + 99 + 198 + 38 * 396;
+        check.due("count(11)", x.count(11), 80);
+        check.due("ban(0, -1, 0)", x.ban(0, -1, 0), 80);
+        check.due("ban(0, 79, 0)", x.ban(0, 79, 0), 9999 + all - 396);
+        check.due("ban(0, 79, 1)", x.ban(0, 79, 1), 396);
+        check.due("ban(0, 79, 2)", x.ban(0, 79, 2), 39);
+        check.due("ban(0, 80, 0)", x.ban(0, 80, 0), NONE);
+        check.due("days", x.days(0, 0, 99999), all);
+        check.due("free(0)", x.free(0), 9999 + all);
+        check.due("would(0, 9999, 0)", x.would(0, 9999, 0), 396);
+        check.due("would(1, 9999, 0)", x.would(1, 9999, 0), 198);
+        check.due("count(11)", x.count(11), 80);
+    }
+
+    private static void manyGaps() {
+        check.part("bans with gaps");
+        PointsOffice x = Check.laid("w001;l99;k102;");
+        for (int e = 0; e < 40; e++) {
+            x.convict(0, 0, 0, 0);
+            x.pass(3);
+        }
+        check.due("days(0, 0, 99999)", x.days(0, 0, 99999), 80);
+        check.due("days(0, 1, 117)", x.days(0, 1, 117), 78);
+        check.due("days(0, 2, 2)", x.days(0, 2, 2), 0);
+        check.due("would(0, 120, 0)", x.would(0, 120, 0), 2);
+    }
+
+    private static void shortOwnBan() {
+        check.part("an own ban of a day");
+        PointsOffice x = Check.laid("w001;l99;k101;");
+        x.convict(0, 0, 0, 0);
+        check.due("ban(0, 0, 1)", x.ban(0, 0, 1), 1);
+        check.due("days(0, 0, 99999)", x.days(0, 0, 99999), 1);
+        check.due("course(0, 1)", x.course(0, 1), 1);
+        check.due("ban(0, 0, 1)", x.ban(0, 0, 1), 1);
+        check.due("ban(0, 0, 4)", x.ban(0, 0, 4), 1);
     }
 
     private static void seen() {

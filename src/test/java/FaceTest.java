@@ -33,6 +33,9 @@ public final class FaceTest {
         Set<String> found = new TreeSet<>();
         for (Method m : c.getDeclaredMethods()) {
             if (Modifier.isPrivate(m.getModifiers())) {
+                for (String name : METHODS) {
+                    check.isTrue(m + " bears no name of the face", !name.startsWith(m.getName() + "/"));
+                }
                 continue;
             }
             found.add(m.getName() + "/" + m.getParameterCount());

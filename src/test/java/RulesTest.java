@@ -79,6 +79,9 @@ public final class RulesTest {
         check.due("fault() of " + text, x.fault(), place);
         check.due("reason() of " + text, x.reason(), reason);
         check.due("fault() again", x.fault(), place);
+        PointsOffice other = new PointsOffice();
+        Check.writeAll(other, text);
+        check.due("reason() ahead of fault() of " + text, other.reason(), reason);
         check.due("count(4)", x.count(4), text.length());
         if (place >= 0) {
             check.due("lay() of " + text, x.lay(), PointsOffice.NO);
