@@ -355,10 +355,11 @@ final class SlowOffice {
             if (e.kind == 0) byDay[w + e.offence] += e.twice ? 2 * e.points : e.points;
             if (e.kind == 1) byDay[w + e.day] -= 3;
         }
-        int most = Integer.MIN_VALUE;
-        for (int start = day - w + 1; start <= day; start++) {
-            int total = 0;
-            for (int i = start; i < start + w; i++) total += byDay[w + i];
+        int total = 0;
+        for (int i = day - w + 1; i <= day; i++) total += byDay[w + i];
+        int most = total;
+        for (int start = day - w + 2; start <= day; start++) {
+            total += byDay[w + start + w - 1] - byDay[w + start - 1];
             most = Math.max(most, total);
         }
         return most;
